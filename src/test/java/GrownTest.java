@@ -14,6 +14,9 @@ public final class GrownTest {
         for (int i = 0; i < 3000; i++) {
             test.run();
         }
+        for (int bounds = 0; bounds < 32768; bounds++) {
+            test.narrowed(bounds);
+        }
         test.check.end();
     }
 
@@ -28,6 +31,31 @@ public final class GrownTest {
             check.same("grown()", unit.grown(), 0);
             for (int r = 1; r < 5; r++) {
                 look(r);
+            }
+        }
+    }
+
+    /** Whatever bounds are built, rounding never takes what is narrowed out of them. */
+    private void narrowed(int bounds) {
+        unit = new CapUnit();
+        unit.root(1, 0, Check.SPACE, 0);
+        for (int i = 0; i < 6; i++) {
+            unit.put(2, Runs.address(random), Check.told(Check.meta(0, 15, bounds)));
+            if (unit.build(2, 1, 2)) {
+                narrowSome();
+            }
+        }
+        check.same("grown() with bounds " + bounds, unit.grown(), 0);
+    }
+
+    private void narrowSome() {
+        long base = unit.told(2, 3);
+        long length = unit.told(2, 4);
+        for (int i = 0; i < 8; i++) {
+            long skipped = Runs.length(random, length);
+            unit.move(3, 2, (int) (base + skipped));
+            if (unit.narrow(4, 3, (int) Runs.length(random, length - skipped), false)) {
+                check.same("narrowed is in what was built", unit.subset(2, 4), true);
             }
         }
     }
