@@ -1,53 +1,64 @@
 import java.util.Random;
 
-/** Promise 15. */
+/** Promise 15; the terms of bounds have their own test. */
 public final class BoundTest {
+    private final Check check = new Check();
+
     public static void main(String[] args) {
-        Check check = new Check();
-        byHand(check);
-        everyMeta(check);
-        packedOnesComeBack(check);
-        check.end();
+        BoundTest test = new BoundTest();
+        test.baseOrTop();
+        test.lowestBits();
+        test.addressWithoutSign();
+        test.everyMeta();
+        test.packedOnesComeBack();
+        test.check.end();
     }
 
-    private static void byHand(Check check) {
+    private void baseOrTop() {
+        check.sentence("BASE, or (top) TOP");
         CapUnit unit = new CapUnit();
-        both(check, unit, 17154, 5, 0, Check.SPACE);
-        both(check, unit, 36 * 256 + 232, 1000, 1000, 1060);
-        both(check, unit, 36 * 256 + 232, 959, 744, 804);
-        both(check, unit, 36 * 256 + 232, 1216, 1256, 1316);
-        both(check, unit, 1017, -1, Check.SPACE - 7, Check.SPACE + 3);
-        // The same round address 0: TOP is not turned, as it stands 2^32 above in both.
-        both(check, unit, 1017, 0, Check.SPACE - 7, Check.SPACE + 3);
-        // IE with E 63 counts as 26.
-        both(check, unit, 16384 + 7 * 256 + 7, 123, 0, Check.SPACE);
-        // E 24, B 192, T 0, from the last quarter and from 0.
-        both(check, unit, 16384 + 3 * 256 + 192, 0xC0000000, 0xC0000000L, Check.SPACE);
-        both(check, unit, 16384 + 3 * 256 + 192, 0, 0xC0000000L, Check.SPACE);
-        // E 25 is not below 25: TOP stays cut to 0.
-        both(check, unit, 16384 + 3 * 256 + 184 + 1, 0, 56L << 25, 0);
-        // What stands above the fifteen bits is not looked at.
-        both(check, unit, 0xFFFF8000 + 36 * 256 + 232, 1000, 1000, 1060);
+        check.bounds(unit, Check.plain(36, 232), 1000, 1000, 1060);
+        check.bounds(unit, Check.plain(36, 232), 959, 744, 804);
+        check.bounds(unit, Check.plain(36, 232), 1216, 1256, 1316);
+        check.bounds(unit, 0, 0, 0, 0);
+        check.bounds(unit, 17154, 5, 0, Check.SPACE);
     }
 
-    private static void both(Check check, CapUnit unit, int meta, int address, long base, long top) {
-        check.same("bound(" + meta + ", " + address + ", false)", unit.bound(meta, address, false), base);
-        check.same("bound(" + meta + ", " + address + ", true)", unit.bound(meta, address, true), top);
+    private void lowestBits() {
+        check.sentence("of the lowest 15 bits of META");
+        CapUnit unit = new CapUnit();
+        for (int bit = 15; bit < 32; bit++) {
+            check.bounds(unit, 1 << bit | Check.plain(36, 232), 1000, 1000, 1060);
+            check.bounds(unit, 1 << bit | Check.scaled(26, 0, 0), 1000, 0, Check.SPACE);
+        }
+        check.bounds(unit, 0xFFFF8000 + Check.plain(36, 232), 1000, 1000, 1060);
+        // E 63 counts as 26, B is 248, T 56.
+        check.bounds(unit, -1, 0, 56L << 26, 56L << 26);
     }
 
-    private static void everyMeta(Check check) {
+    private void addressWithoutSign() {
+        check.sentence("and an ADDRESS (of 32 bits)");
+        CapUnit unit = new CapUnit();
+        check.bounds(unit, Check.plain(8, 0), Integer.MIN_VALUE, Check.SPACE / 2, Check.SPACE / 2 + 8);
+        check.bounds(unit, Check.plain(63, 255), -1, Check.SPACE - 1, Check.SPACE - 1);
+        check.bounds(unit, Check.scaled(24, 0, 192), -1, 192L << 24, Check.SPACE);
+    }
+
+    private void everyMeta() {
+        check.sentence("BASE, or (top) TOP, as the model has it, of every META");
         Random random = new Random(15);
         for (int meta = 0; meta < 32768; meta++) {
             CapUnit unit = new CapUnit();
             for (int i = 0; i < 20; i++) {
                 int address = Runs.address(random);
                 long[] due = Model.bounds(meta, Integer.toUnsignedLong(address));
-                both(check, unit, meta | random.nextInt() << 15, address, due[0], due[1]);
+                check.bounds(unit, meta | random.nextInt() << 15, address, due[0], due[1]);
             }
         }
     }
 
-    private static void packedOnesComeBack(Check check) {
+    private void packedOnesComeBack() {
+        check.sentence("BASE, or (top) TOP, of what was packed");
         Random random = new Random(16);
         for (int i = 0; i < 100_000; i++) {
             CapUnit unit = new CapUnit();
@@ -55,7 +66,7 @@ public final class BoundTest {
             long from = Integer.toUnsignedLong(base);
             long to = from + Runs.length(random, Check.SPACE - from);
             long[] due = Model.packed(from, to);
-            both(check, unit, unit.pack(base, to - from), base, due[2], due[3]);
+            check.bounds(unit, unit.pack(base, to - from), base, due[2], due[3]);
         }
     }
 }
